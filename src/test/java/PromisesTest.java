@@ -33,6 +33,8 @@ public final class PromisesTest {
         stands();
         lean();
         look();
+        allSixDays();
+        twelveGrowers();
         argumentAheadOfState();
         throwingChangesNothing();
         Check.end();
@@ -738,6 +740,46 @@ public final class PromisesTest {
         for (int what : new int[] {-1, 6, FAR[0], FAR[1]}) {
             Check.argument("23: look(" + what + ")", () -> x.look(what));
         }
+    }
+
+    private static void allSixDays() {
+        WeighOff x = new WeighOff(3);
+        for (int day = 1; day <= 5; day++) {
+            enter(x, 500, 500, 500);
+        }
+        Check.due("16: all alike", 1, () -> x.place(0));
+        Check.due("12: day 6", 6, x::day);
+        Check.due("11: the greatest number first", 2, x::turn);
+        x.weigh(4000, 3);
+        x.weigh(4010, -4);
+        x.pass();
+        Check.due("16: the sixth weight is less", 2, () -> x.place(2));
+        Check.due("16: the sixth weight decides", 1, () -> x.place(1));
+        Check.due("16: five are less than six", 3, () -> x.place(0));
+        Check.due("13: on day 6", 401, () -> x.weight(1, 6));
+        Check.due("14: on day 6", 3, () -> x.tilt(2, 6));
+        Check.due("18: on day 6, too", 2, () -> x.count(0, 0, 500));
+        Check.due("18: all entries", 18, () -> x.count(1, 5, NONE));
+        Check.due("19: the latest is that of day 6", 2, () -> x.first(0, 4, 400));
+        Check.due("20: likewise", 2, () -> x.lamps(1, 4, -4));
+        Check.due("22: greatest of day 6", 3, () -> x.lean(6, false));
+        Check.due("22: least of day 6", -4, () -> x.lean(6, true));
+        Check.due("23: all entries", 18, () -> x.look(3));
+    }
+
+    private static void twelveGrowers() {
+        WeighOff x = new WeighOff(12);
+        passes(x, 11);
+        x.weigh(3000, -5);
+        Check.due("18: the last of twelve", 1, () -> x.count(0, 4, 300));
+        Check.due("19: the last of twelve", 11, () -> x.first(1, 4, -5));
+        Check.due("19: none of twelve", NONE, () -> x.first(0, 2, 300));
+        Check.due("20: the last of twelve", 2048, () -> x.lamps(0, 4, 300));
+        Check.due("21: the last of twelve", 26, () -> x.stands(0, 11, 11));
+        Check.due("22: the last of twelve", -5, () -> x.lean(1, false));
+        Check.due("22: none of twelve", NONE, () -> x.lean(6, true));
+        Check.due("16: behind one", 2, () -> x.place(0));
+        Check.argument("15: there is no thirteenth", () -> x.best(12));
     }
 
     private static void argumentAheadOfState() {
