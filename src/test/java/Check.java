@@ -1,3 +1,8 @@
+import java.lang.reflect.InvocationTargetException;
+import java.lang.reflect.Method;
+import java.util.Arrays;
+import java.util.Comparator;
+
 /** What the tests share: they count wrong answers, print them, and end with exit code 1 if any. */
 final class Check {
     interface Call {
@@ -10,8 +15,37 @@ final class Check {
 
     private static int asked = 0;
     private static int wrong = 0;
+    /** The test that runs, as a beginning for what is printed of it. */
+    private static String running = "";
 
     private Check() {}
+
+    /** Runs each method of a class that is named after a promise or the terms: none is forgotten. */
+    static void each(Class<?> tests) {
+        Method[] methods = tests.getDeclaredMethods();
+        Arrays.sort(methods, Comparator.comparing(Method::getName));
+        int run = 0;
+        for (Method method : methods) {
+            if (method.getName().matches("(promise|terms).*")) {
+                running = method.getName() + ": ";
+                same("ends", "without an exception", endOf(method));
+                run++;
+            }
+        }
+        running = "";
+        System.out.println(run + " tests");
+    }
+
+    private static String endOf(Method method) {
+        try {
+            method.invoke(null);
+            return "without an exception";
+        } catch (InvocationTargetException e) {
+            return String.valueOf(e.getCause());
+        } catch (IllegalAccessException e) {
+            return String.valueOf(e);
+        }
+    }
 
     static void due(String what, long want, Call call) {
         String got;
@@ -39,7 +73,7 @@ final class Check {
         asked++;
         if (!want.equals(got)) {
             wrong++;
-            System.out.println(what + ": got " + got + ", due is " + want);
+            System.out.println(running + what + ": got " + got + ", due is " + want);
         }
     }
 

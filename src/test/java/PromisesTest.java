@@ -40,34 +40,6 @@ public final class PromisesTest {
         Check.end();
     }
 
-    /** Entries in turn: a number of whole pounds is weighed with tilt 0, 0 cracks, -1 passes. */
-    private static void enter(WeighOff x, int... pounds) {
-        for (int each : pounds) {
-            if (each > 0) {
-                x.weigh(each * 10, 0);
-            } else if (each == 0) {
-                x.crack(0, 0);
-            } else {
-                x.pass();
-            }
-        }
-    }
-
-    private static void passes(WeighOff x, int times) {
-        for (int n = 0; n < times; n++) {
-            x.pass();
-        }
-    }
-
-    /** Everybody passes, in this order, and then it is this day. */
-    private static void dueOrder(String what, WeighOff x, int nextDay, int... order) {
-        for (int who : order) {
-            Check.due(what + ", turn", who, x::turn);
-            x.pass();
-        }
-        Check.due(what + ", the day behind it", nextDay, x::day);
-    }
-
     private static void newObject() {
         for (int growers = 3; growers <= 12; growers++) {
             WeighOff x = new WeighOff(growers);
@@ -94,7 +66,7 @@ public final class PromisesTest {
     private static void open() {
         WeighOff x = new WeighOff(5);
         x.prize(300);
-        enter(x, 500, 400, 0, -1);
+        Runs.enter(x, 500, 400, 0, -1);
         x.leave(4);
         x.leave(0);
         x.level(false);
@@ -112,10 +84,10 @@ public final class PromisesTest {
         Check.due("2: the prize stays", 300, () -> x.look(1));
         Check.due("2: the records are of all weigh-offs", 1, () -> x.look(2));
         Check.holds("2: the level stays off", false, x.level(false));
-        dueOrder("2: all are in again", x, 2, 0, 1, 2, 3, 4, 5, 6, 7, 8, 9, 10, 11);
+        Runs.dueOrder("2: all are in again", x, 2, 0, 1, 2, 3, 4, 5, 6, 7, 8, 9, 10, 11);
         x.open(3);
         Check.argument("2: grower 3 is gone", () -> x.best(3));
-        dueOrder("2: fewer", x, 2, 0, 1, 2);
+        Runs.dueOrder("2: fewer", x, 2, 0, 1, 2);
         for (int growers : new int[] {2, 13, 0, -1, FAR[0], FAR[1]}) {
             Check.argument("2: open(" + growers + ")", () -> x.open(growers));
         }
@@ -125,11 +97,11 @@ public final class PromisesTest {
 
     private static void openForgetsTheCut() {
         WeighOff x = new WeighOff(3);
-        enter(x, 300, 200, 100);
-        passes(x, 6);
+        Runs.enter(x, 300, 200, 100);
+        Runs.passes(x, 6);
         Check.due("2: the cut is made", 4, x::day);
         x.open(4);
-        passes(x, 12);
+        Runs.passes(x, 12);
         Check.due("2: nobody of the new one has a weight", 7, x::day);
         x.open(3);
         Check.due("2: from over to day 1", 1, x::day);
@@ -159,13 +131,7 @@ public final class PromisesTest {
         Check.due("3: the turn stays", 0, x::turn);
         Check.due("3: with the level off", 50, () -> x.weigh(500, 99));
         Check.due("3: then no tilt", NONE, () -> x.tilt(0, 2));
-        Check.state("3: over", () -> over().weigh(100, 0));
-    }
-
-    private static WeighOff over() {
-        WeighOff x = new WeighOff(3);
-        passes(x, 9);
-        return x;
+        Check.state("3: over", () -> Runs.over().weigh(100, 0));
     }
 
     private static void crack() {
@@ -191,7 +157,7 @@ public final class PromisesTest {
         Check.argument("4: as told, while the level is off", () -> x.crack(0, -100));
         x.crack(0, 5);
         Check.due("4: no tilt while the level is off", NONE, () -> x.tilt(0, 2));
-        Check.state("4: over", () -> over().crack(0, 0));
+        Check.state("4: over", () -> Runs.over().crack(0, 0));
     }
 
     private static void pass() {
@@ -202,7 +168,7 @@ public final class PromisesTest {
         Check.due("5: an entry", 1, () -> x.look(3));
         Check.due("5: the next one", 1, x::turn);
         Check.state("5: no appeal", () -> x.appeal(0, 1));
-        Check.state("5: over", () -> over().pass());
+        Check.state("5: over", () -> Runs.over().pass());
     }
 
     private static void leave() {
@@ -222,9 +188,9 @@ public final class PromisesTest {
             Check.argument("6: leave(" + who + ")", () -> x.leave(who));
         }
         Check.due("6: what throws changes nothing", 3, () -> x.look(5));
-        dueOrder("6: the rest of the day", x, 2, 3, 4);
-        dueOrder("6: the next day", x, 3, 3, 4);
-        WeighOff done = over();
+        Runs.dueOrder("6: the rest of the day", x, 2, 3, 4);
+        Runs.dueOrder("6: the next day", x, 3, 3, 4);
+        WeighOff done = Runs.over();
         done.leave(1);
         Check.due("6: when it is over", 1, () -> done.look(5));
         Check.state("6: twice when it is over", () -> done.leave(1));
@@ -232,7 +198,7 @@ public final class PromisesTest {
 
     private static void leaveEndsADay() {
         WeighOff x = new WeighOff(4);
-        passes(x, 2);
+        Runs.passes(x, 2);
         x.leave(3);
         Check.due("6: still this day", 1, x::day);
         x.leave(2);
@@ -243,10 +209,10 @@ public final class PromisesTest {
         Check.due("6: nobody is in", 7, x::day);
         Check.due("6: nobody has the turn", NONE, x::turn);
         WeighOff y = new WeighOff(3);
-        enter(y, 300, 200, 100, -1, -1, -1, -1, -1);
+        Runs.enter(y, 300, 200, 100, -1, -1, -1, -1, -1);
         y.leave(2);
         Check.due("6: leaving makes the cut", 4, y::day);
-        dueOrder("6: without the one that left", y, 5, 1, 0);
+        Runs.dueOrder("6: without the one that left", y, 5, 1, 0);
         y.leave(1);
         y.leave(0);
         Check.due("6: all left on day 5", 7, y::day);
@@ -270,7 +236,7 @@ public final class PromisesTest {
         Check.state("7: twice", () -> x.appeal(0, 1));
         Check.state("7: not measured", () -> x.appeal(2, 1));
         Check.state("7: no entry", () -> x.appeal(0, 2));
-        enter(x, 300, -1);
+        Runs.enter(x, 300, -1);
         Check.state("7: a sound fruit", () -> x.appeal(0, 2));
         Check.state("7: a pass", () -> x.appeal(1, 2));
         for (int who : new int[] {-1, 3, FAR[0], FAR[1]}) {
@@ -300,7 +266,7 @@ public final class PromisesTest {
         Check.due("7: one record", 1, () -> x.look(2));
         WeighOff y = new WeighOff(3);
         y.crack(3000, 0);
-        passes(y, 8);
+        Runs.passes(y, 8);
         Check.due("7: over, for nobody has a weight", 7, y::day);
         Check.due("7: when it is over", 300, () -> y.appeal(0, 1));
         Check.due("7: it stays over", 7, y::day);
@@ -310,17 +276,17 @@ public final class PromisesTest {
     private static void appealLeavesCutAndOrder() {
         WeighOff x = new WeighOff(4);
         x.crack(9000, 0);
-        enter(x, 300, 200);
+        Runs.enter(x, 300, 200);
         x.crack(8000, 0);
-        enter(x, 150, -1, -1, -1, -1, -1, -1, -1);
+        Runs.enter(x, 150, -1, -1, -1, -1, -1, -1, -1);
         Check.due("7: day 4", 4, x::day);
         x.appeal(3, 1);
         x.appeal(0, 1);
         Check.due("7: place 1 now", 1, () -> x.place(0));
         Check.due("7: place 2 now", 2, () -> x.place(3));
-        dueOrder("7: the order of day 4 stays", x, 5, 0, 2, 1);
-        dueOrder("7: that of day 5 too, and 3 isn't in", x, 6, 0, 2, 1);
-        dueOrder("7: that of day 6 is by the new places", x, 7, 2, 1, 0);
+        Runs.dueOrder("7: the order of day 4 stays", x, 5, 0, 2, 1);
+        Runs.dueOrder("7: that of day 5 too, and 3 isn't in", x, 6, 0, 2, 1);
+        Runs.dueOrder("7: that of day 6 is by the new places", x, 7, 2, 1, 0);
     }
 
     private static void level() {
@@ -384,57 +350,57 @@ public final class PromisesTest {
     private static void turnOnTheFirstDays() {
         WeighOff x = new WeighOff(3);
         Check.due("11: turn 0", 0, x::turn);
-        enter(x, 100);
+        Runs.enter(x, 100);
         Check.due("11: turn 1", 1, x::turn);
-        enter(x, 0);
+        Runs.enter(x, 0);
         Check.due("11: turn 2", 2, x::turn);
-        enter(x, 900);
+        Runs.enter(x, 900);
         Check.due("12: day 2", 2, x::day);
-        dueOrder("11: by the numbers", x, 3, 0, 1, 2);
-        dueOrder("11: by the numbers still", x, 4, 0, 1, 2);
-        dueOrder("11: one without a weight isn't in", x, 5, 0, 2);
-        dueOrder("11: day 5", x, 6, 0, 2);
-        dueOrder("11: day 6", x, 7, 0, 2);
+        Runs.dueOrder("11: by the numbers", x, 3, 0, 1, 2);
+        Runs.dueOrder("11: by the numbers still", x, 4, 0, 1, 2);
+        Runs.dueOrder("11: one without a weight isn't in", x, 5, 0, 2);
+        Runs.dueOrder("11: day 5", x, 6, 0, 2);
+        Runs.dueOrder("11: day 6", x, 7, 0, 2);
         Check.due("11: over", NONE, x::turn);
         Check.state("11: and nothing more", x::pass);
     }
 
     private static void theCut() {
         WeighOff x = new WeighOff(12);
-        enter(x, 100, 200, 300, 400, 500, 600, 700, 800, 900, 950, 960, 970);
+        Runs.enter(x, 100, 200, 300, 400, 500, 600, 700, 800, 900, 950, 960, 970);
         x.leave(11);
         x.leave(5);
-        passes(x, 20);
+        Runs.passes(x, 20);
         Check.due("the cut: of one that left, the place", 1, () -> x.place(11));
         Check.due("the cut: place 8", 8, () -> x.place(4));
         Check.due("the cut: place 9", 9, () -> x.place(3));
-        dueOrder("the cut: the greatest place first", x, 5, 4, 6, 7, 8, 9, 10);
+        Runs.dueOrder("the cut: the greatest place first", x, 5, 4, 6, 7, 8, 9, 10);
         x.leave(8);
-        dueOrder("the cut: day 5 without another", x, 6, 4, 6, 7, 9, 10);
+        Runs.dueOrder("the cut: day 5 without another", x, 6, 4, 6, 7, 9, 10);
     }
 
     private static void theCutWithTies() {
         WeighOff x = new WeighOff(12);
-        enter(x, 900, 500, 500, 500, 500, 500, 500, 500, 500, 500, 800, 0);
-        passes(x, 24);
+        Runs.enter(x, 900, 500, 500, 500, 500, 500, 500, 500, 500, 500, 800, 0);
+        Runs.passes(x, 24);
         Check.due("the cut: nine share a place", 3, () -> x.place(9));
-        dueOrder("the cut: all of them, the greatest number first",
+        Runs.dueOrder("the cut: all of them, the greatest number first",
                 x, 5, 9, 8, 7, 6, 5, 4, 3, 2, 1, 10, 0);
         WeighOff y = new WeighOff(12);
-        enter(y, 900, 900, 900, 900, 900, 900, 900, 800, 800, 700, 700, 0);
-        passes(y, 24);
-        dueOrder("the cut: two share place 8", y, 5, 8, 7, 6, 5, 4, 3, 2, 1, 0);
+        Runs.enter(y, 900, 900, 900, 900, 900, 900, 900, 800, 800, 700, 700, 0);
+        Runs.passes(y, 24);
+        Runs.dueOrder("the cut: two share place 8", y, 5, 8, 7, 6, 5, 4, 3, 2, 1, 0);
     }
 
     private static void nobodyThroughTheCut() {
         WeighOff x = new WeighOff(3);
-        passes(x, 8);
+        Runs.passes(x, 8);
         Check.due("12: the last of day 3", 3, x::day);
         x.crack(5000, 0);
         Check.due("12: nobody had a weight", 7, x::day);
         Check.due("11: so it is over", NONE, x::turn);
         WeighOff y = new WeighOff(3);
-        enter(y, 300, -1, -1, -1, -1, -1, -1, -1);
+        Runs.enter(y, 300, -1, -1, -1, -1, -1, -1, -1);
         y.leave(0);
         Check.due("12: still day 3", 3, y::day);
         y.pass();
@@ -443,27 +409,27 @@ public final class PromisesTest {
 
     private static void orderOfTheLastDay() {
         WeighOff x = new WeighOff(4);
-        enter(x, 400, 300, 200, 100);
-        passes(x, 8);
+        Runs.enter(x, 400, 300, 200, 100);
+        Runs.passes(x, 8);
         Check.due("11: the last one first", 3, x::turn);
-        enter(x, 900, 300, -1, -1);
+        Runs.enter(x, 900, 300, -1, -1);
         Check.due("12: day 5", 5, x::day);
-        dueOrder("11: by the places at the cut still", x, 6, 3, 2, 1, 0);
-        dueOrder("11: by those behind day 5", x, 7, 1, 2, 0, 3);
+        Runs.dueOrder("11: by the places at the cut still", x, 6, 3, 2, 1, 0);
+        Runs.dueOrder("11: by those behind day 5", x, 7, 1, 2, 0, 3);
         WeighOff y = new WeighOff(4);
-        enter(y, 400, 300, 200, 100);
-        passes(y, 8);
-        enter(y, -1, 300, 200, -1, -1, -1, -1);
+        Runs.enter(y, 400, 300, 200, 100);
+        Runs.passes(y, 8);
+        Runs.enter(y, -1, 300, 200, -1, -1, -1, -1);
         Check.due("12: the last entry of day 5", 5, y::day);
         Check.due("11: by the least number", 0, y::turn);
-        enter(y, 100);
-        dueOrder("11: equal ones by the greatest number", y, 7, 3, 2, 1, 0);
+        Runs.enter(y, 100);
+        Runs.dueOrder("11: equal ones by the greatest number", y, 7, 3, 2, 1, 0);
     }
 
     private static void everybodyLeavesLate() {
         WeighOff x = new WeighOff(3);
-        enter(x, 300, 200, 100);
-        passes(x, 6);
+        Runs.enter(x, 300, 200, 100);
+        Runs.passes(x, 6);
         x.pass();
         x.leave(2);
         x.leave(0);
@@ -471,8 +437,8 @@ public final class PromisesTest {
         x.leave(1);
         Check.due("12: nobody is in day 5", 7, x::day);
         WeighOff y = new WeighOff(3);
-        enter(y, 300, 200, 100);
-        passes(y, 9);
+        Runs.enter(y, 300, 200, 100);
+        Runs.passes(y, 9);
         y.leave(1);
         y.pass();
         Check.due("11: one that left is passed over", 0, y::turn);
@@ -486,7 +452,7 @@ public final class PromisesTest {
 
     private static void weight() {
         WeighOff x = new WeighOff(3);
-        enter(x, 300, 0, -1, -1);
+        Runs.enter(x, 300, 0, -1, -1);
         Check.due("13: sound", 300, () -> x.weight(0, 1));
         Check.due("13: cracked", -1, () -> x.weight(1, 1));
         Check.due("13: pass", -2, () -> x.weight(2, 1));
@@ -523,7 +489,7 @@ public final class PromisesTest {
 
     private static void best() {
         WeighOff x = new WeighOff(3);
-        enter(x, 300, 0, 500, 310, -1, 400);
+        Runs.enter(x, 300, 0, 500, 310, -1, 400);
         Check.due("15: the later one", 310, () -> x.best(0));
         Check.due("15: none", NONE, () -> x.best(1));
         Check.due("15: the earlier one", 500, () -> x.best(2));
@@ -536,9 +502,9 @@ public final class PromisesTest {
 
     private static void place() {
         WeighOff x = new WeighOff(6);
-        enter(x, 500, 300, 500, 500, 0, 499);
-        enter(x, 300, 500, -1, 301, -1, 499);
-        enter(x, 100, -1, -1, -1, -1, 499);
+        Runs.enter(x, 500, 300, 500, 500, 0, 499);
+        Runs.enter(x, 300, 500, -1, 301, -1, 499);
+        Runs.enter(x, 100, -1, -1, -1, -1, 499);
         Check.due("16: the second weight decides", 1, () -> x.place(3));
         Check.due("16: the third, that the other hasn't", 2, () -> x.place(0));
         Check.due("16: the order of the days is nothing", 3, () -> x.place(1));
@@ -552,7 +518,7 @@ public final class PromisesTest {
             Check.argument("16: place(" + who + ")", () -> x.place(who));
         }
         WeighOff y = new WeighOff(5);
-        enter(y, 500, 300, -1, 300, 0, 300, 500, -1, 400, 0);
+        Runs.enter(y, 500, 300, -1, 300, 0, 300, 500, -1, 400, 0);
         Check.due("16: alike share it", 1, () -> y.place(0));
         Check.due("16: alike share it, too", 1, () -> y.place(1));
         Check.due("16: behind both", 3, () -> y.place(3));
@@ -562,7 +528,7 @@ public final class PromisesTest {
 
     private static void wins() {
         WeighOff x = new WeighOff(3);
-        enter(x, 500, 499, 0);
+        Runs.enter(x, 500, 499, 0);
         Check.holds("17: no prize", false, x.wins(0));
         x.prize(500);
         Check.holds("17: as much", true, x.wins(0));
@@ -649,7 +615,7 @@ public final class PromisesTest {
         signs("20: tilts to -6", s -> x.lamps(1, s, -6), 1, 1, 0, 0, 0, 15);
         signs("20: no entries", s -> new WeighOff(12).lamps(1, s, 0), 0, 0, 0, 0, 0, 4095);
         WeighOff y = new WeighOff(12);
-        enter(y, 100, 200, 300, 400, 500, 600, 700, 800, 900, 100, 200, 300);
+        Runs.enter(y, 100, 200, 300, 400, 500, 600, 700, 800, 900, 100, 200, 300);
         Check.due("20: many", 8 + 16 + 32 + 64 + 128 + 256, () -> y.lamps(0, 2, 300));
         y.leave(8);
         Check.due("20: one that left, too", 256, () -> y.lamps(0, 4, 900));
@@ -745,7 +711,7 @@ public final class PromisesTest {
     private static void allSixDays() {
         WeighOff x = new WeighOff(3);
         for (int day = 1; day <= 5; day++) {
-            enter(x, 500, 500, 500);
+            Runs.enter(x, 500, 500, 500);
         }
         Check.due("16: all alike", 1, () -> x.place(0));
         Check.due("12: day 6", 6, x::day);
@@ -769,7 +735,7 @@ public final class PromisesTest {
 
     private static void twelveGrowers() {
         WeighOff x = new WeighOff(12);
-        passes(x, 11);
+        Runs.passes(x, 11);
         x.weigh(3000, -5);
         Check.due("18: the last of twelve", 1, () -> x.count(0, 4, 300));
         Check.due("19: the last of twelve", 11, () -> x.first(1, 4, -5));
@@ -783,33 +749,17 @@ public final class PromisesTest {
     }
 
     private static void argumentAheadOfState() {
-        Check.argument("weigh, over", () -> over().weigh(99, 0));
-        Check.argument("weigh's tenths, over", () -> over().weigh(100, 100));
-        Check.argument("crack, over", () -> over().crack(10, 0));
-        Check.argument("crack's tenths, over", () -> over().crack(0, -100));
+        Check.argument("weigh, over", () -> Runs.over().weigh(99, 0));
+        Check.argument("weigh's tenths, over", () -> Runs.over().weigh(100, 100));
+        Check.argument("crack, over", () -> Runs.over().crack(10, 0));
+        Check.argument("crack's tenths, over", () -> Runs.over().crack(0, -100));
         Check.argument("appeal's day", () -> new WeighOff(3).appeal(0, 7));
         Check.argument("appeal's grower", () -> new WeighOff(3).appeal(3, 1));
     }
 
-    /** Everything that can be asked, as a text. */
-    private static String all(WeighOff x) {
-        StringBuilder seen = new StringBuilder();
-        seen.append(x.turn()).append(' ').append(x.day());
-        for (int what = 0; what < 6; what++) {
-            seen.append(' ').append(x.look(what));
-        }
-        for (int who = 0; who < x.look(4); who++) {
-            seen.append('/').append(x.best(who)).append(' ').append(x.place(who));
-            for (int day = 1; day <= 6; day++) {
-                seen.append(' ').append(x.weight(who, day)).append(':').append(x.tilt(who, day));
-            }
-        }
-        return seen.toString();
-    }
-
     private static void throwingChangesNothing() {
         WeighOff x = board();
-        String before = all(x);
+        String before = Story.asked(x);
         Check.argument("open", () -> x.open(2));
         Check.argument("weigh", () -> x.weigh(9999, 100));
         Check.argument("crack", () -> x.crack(9999, 100));
@@ -818,12 +768,12 @@ public final class PromisesTest {
         Check.state("appeal", () -> x.appeal(0, 1));
         Check.argument("record", () -> x.record(1000));
         Check.argument("prize", () -> x.prize(1000));
-        Check.same("a call that throws changes nothing", before, all(x));
-        WeighOff y = over();
-        String still = all(y);
+        Check.same("a call that throws changes nothing", before, Story.asked(x));
+        WeighOff y = Runs.over();
+        String still = Story.asked(y);
         Check.state("weigh, over", () -> y.weigh(9999, 0));
         Check.state("crack, over", () -> y.crack(9999, 0));
         Check.state("pass, over", y::pass);
-        Check.same("nor when it is over", still, all(y));
+        Check.same("nor when it is over", still, Story.asked(y));
     }
 }
