@@ -26,7 +26,7 @@ final class Check {
         Arrays.sort(methods, Comparator.comparing(Method::getName));
         int run = 0;
         for (Method method : methods) {
-            if (method.getName().matches("(promise|terms).*")) {
+            if (method.getName().matches("(whatItIs|terms|promise|notPromised).*")) {
                 running = method.getName() + ": ";
                 same("ends", "without an exception", endOf(method));
                 run++;
