@@ -528,6 +528,7 @@ public final class PromisesTest {
         Check.due("most", 999, () -> x.look(0));
         x.record(1);
         Check.due("least", 1, () -> x.look(0));
+        Check.due("no prize by it", NONE, () -> x.look(1));
         Check.due("setting is no record", 0, () -> x.look(2));
         x.record(500);
         x.weigh(5009, 0);
@@ -539,7 +540,6 @@ public final class PromisesTest {
         Check.due("the count stays", 1, () -> x.look(2));
         x.weigh(100, 0);
         Check.due("any one, when there is none", 10, () -> x.look(0));
-        Check.due("no prize by it", NONE, () -> x.look(1));
     }
 
     @Says("IllegalArgumentException: the number isn't 0 .. 999.")
@@ -561,13 +561,13 @@ public final class PromisesTest {
         Check.holds("998 is less", false, x.wins(0));
         x.prize(998);
         Check.holds("998 is as much", true, x.wins(0));
+        Check.due("no record by it", NONE, () -> x.look(0));
         x.prize(1);
         Check.due("least", 1, () -> x.look(1));
         Check.holds("it is more", true, x.wins(0));
         x.prize(0);
         Check.due("none", NONE, () -> x.look(1));
         Check.holds("nobody wins", false, x.wins(0));
-        Check.due("no record by it", NONE, () -> x.look(0));
     }
 
     @Says("IllegalArgumentException: the number isn't 0 .. 999.")

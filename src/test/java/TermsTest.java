@@ -119,6 +119,15 @@ public final class TermsTest {
         Runs.dueOrder("day 5, without another", x, 6, 4, 6, 7, 9, 10);
         x.leave(4);
         Runs.dueOrder("day 6, without a third", x, 7, 6, 7, 9, 10);
+        WeighOff y = new WeighOff(3);
+        Runs.enter(y, 300, 200, 100);
+        y.leave(2);
+        Runs.passes(y, 4);
+        Check.due("the first of day 4 had left", 1, y::turn);
+        y.pass();
+        y.leave(1);
+        y.pass();
+        Runs.dueOrder("the first of day 5 had left", y, 6, 0);
     }
 
     @Says("When day 3 is over comes THE CUT: on days 4 to 6 those are IN that had a WEIGHT and a "
@@ -128,10 +137,12 @@ public final class TermsTest {
         Check.due("place 3 without a weight", 3, () -> x.place(1));
         Runs.dueOrder("only those with a weight", x, 5, 2, 0);
         WeighOff y = atTheCut(90, 80, 70, 60, 50, 40, 30, 20, 10);
-        Check.due("the ninth is out", 7, y::turn);
-        Runs.enter(y, 100, 100, 100, 100, 100, 100, 100, -1);
-        Check.due("place 8 now", 8, () -> y.place(0));
-        Runs.dueOrder("they stay in", y, 6, 7, 6, 5, 4, 3, 2, 1, 0);
+        Runs.dueOrder("the ninth is out", y, 5, 7, 6, 5, 4, 3, 2, 1, 0);
+        WeighOff many = atTheCut(90, 90, 90, 90, 90, 90, 90, 90, 90, 90);
+        Runs.enter(many, 80, 79, 78, 77, 76, 75, 74, 73, 72, 71);
+        Check.due("place 10 now", 10, () -> many.place(0));
+        Runs.dueOrder("day 5, by the places then", many, 6, 9, 8, 7, 6, 5, 4, 3, 2, 1, 0);
+        Runs.dueOrder("day 6, still in", many, 7, 0, 1, 2, 3, 4, 5, 6, 7, 8, 9);
         WeighOff z = new WeighOff(3);
         Runs.passes(z, 6);
         Runs.enter(z, 300, -1, 100);
@@ -263,6 +274,7 @@ public final class TermsTest {
         Check.due("cracked, no best", NONE, () -> x.best(0));
         Check.due("passed, no best", NONE, () -> x.best(1));
         Check.due("no weight above 0", 0, () -> x.count(0, 2, 0));
+        Check.due("no weight below 0", 0, () -> x.count(0, 0, 0));
         Check.due("none at all", 2, () -> x.count(0, 5, 999));
         duePlaces("nobody is before another", x, 1, 1, 1);
     }
