@@ -20,7 +20,7 @@ final class Check {
 
     private Check() {}
 
-    /** Runs each method of a class that is named after a section of the document: none is forgotten. */
+    /** Runs each method that is named after a section of the document: none is forgotten. */
     static void each(Class<?> tests) {
         Method[] methods = tests.getDeclaredMethods();
         Arrays.sort(methods, Comparator.comparing(Method::getName));

@@ -169,8 +169,8 @@ public final class PromisesTest {
         Check.argument("when over", () -> Runs.over().open(13));
     }
 
-    @Says("The one that has the turn WEIGHS a fruit of so many tenths of a pound, with a tilt of so "
-            + "many tenths")
+    @Says("The one that has the turn WEIGHS a fruit of so many tenths of a pound, with a tilt of "
+            + "so many tenths")
     static void promise3TheOneThatHasTheTurn() {
         WeighOff x = new WeighOff(3);
         x.weigh(100, -99);
@@ -762,8 +762,8 @@ public final class PromisesTest {
         refuses("grower", NO_GROWER, x::wins);
     }
 
-    @Says("How many of all entries of this weigh-off have a WEIGHT (what 0) or TILT (1) that stands "
-            + "to a number (NONE: none) by a SIGN so;")
+    @Says("How many of all entries of this weigh-off have a WEIGHT (what 0) or TILT (1) that "
+            + "stands to a number (NONE: none) by a SIGN so;")
     static void promise18Counts() {
         WeighOff x = board();
         signs("weights to 500", x::count, 0, 500, 1, 2, 0, 1, 1, 4);
@@ -874,8 +874,8 @@ public final class PromisesTest {
         refusesWhatAndSign(board()::first);
     }
 
-    @Says("Lamps, 2 to the power of its number each, of all growers whose BEST (what 0), or the TILT "
-            + "of whose latest entry (1; none without an entry), stands so, together.")
+    @Says("Lamps, 2 to the power of its number each, of all growers whose BEST (what 0), or the "
+            + "TILT of whose latest entry (1; none without an entry), stands so, together.")
     static void promise20Lamps() {
         WeighOff x = board();
         signs("bests to 500", x::lamps, 0, 500, 0, 1, 0, 1, 1, 14);
@@ -908,7 +908,8 @@ public final class PromisesTest {
     }
 
     @Says("How two growers' BESTS stand (what 0), or the TILTS of their latest entries (1; none "
-            + "without an entry): 2 to the power of the SIGN each, of all SIGNS that hold, together.")
+            + "without an entry): 2 to the power of the SIGN each, of all SIGNS that hold, "
+            + "together.")
     static void promise21HowTwoStand() {
         WeighOff x = new WeighOff(5);
         x.weigh(5000, 9);

@@ -328,8 +328,8 @@ public final class TermsTest {
     }
 
     @Says("One grower is BEFORE another: the WEIGHTS of both stand in order, the greatest first, "
-            + "and at the first place at which they are unlike the one's is greater, or the one has "
-            + "one there and the other has none.")
+            + "and at the first place at which they are unlike the one's is greater, or the one "
+            + "has one there and the other has none.")
     static void termsBefore() {
         WeighOff x = new WeighOff(6);
         Runs.enter(x, 500, 300, 500, 500, 0, 499);
